@@ -35,7 +35,7 @@ public final class BreakerOrders {
     private int sourceVoltage = 0;
 
     public BreakerOrders() {
-        // All rows are made here, so that no later call makes an object and none meets a null.
+        // All rows are made here, so that later calls make none and meet no null.
         for (int i = 0; i < MOST_DEVICES; i++) {
             devices[i] = new Device(i);
         }
