@@ -8,8 +8,17 @@ final class Check {
     static final String ARGUMENT = "throws.IllegalArgumentException";
     static final String STATE = "throws.IllegalStateException";
 
+    /** No test takes a tenth of it; a call that does not end is to be told, too. */
+    private static final long MOST_MILLISECONDS = 300000;
+
     private int right = 0;
     private int wrong = 0;
+
+    Check() {
+        Thread watch = new Thread(Check::endLate);
+        watch.setDaemon(true);
+        watch.start();
+    }
 
     void due(String what, long want, Call call) {
         compare(what, Long.toString(want), told(call));
@@ -23,12 +32,18 @@ final class Check {
         compare(what, STATE, told(call));
     }
 
+    /** The call is to answer, whatever it answers, and not to throw. */
+    void answers(String what, Call call) {
+        String got = told(call);
+        compare(what, got.startsWith("throws.") ? "an answer" : got, got);
+    }
+
     void compare(String what, String want, String got) {
         if (got.equals(want)) {
             right++;
         } else {
             wrong++;
-            System.out.println(what + " answered " + got + ", due is " + want);
+            System.out.println(test() + ": " + what + " answered " + got + ", due is " + want);
         }
     }
 
@@ -41,10 +56,36 @@ final class Check {
         }
     }
 
+    static long bit(boolean b) {
+        return b ? 1 : 0;
+    }
+
     void end() {
         System.out.println(right + " answers as due, " + wrong + " not");
         if (wrong != 0) {
             System.exit(1);
         }
+    }
+
+    private static void endLate() {
+        try {
+            Thread.sleep(MOST_MILLISECONDS);
+        } catch (InterruptedException e) {
+            System.out.println("the watch has been woken");
+        }
+        System.out.println("a call does not end");
+        Runtime.getRuntime().halt(1);
+    }
+
+    /** The test that checks, which main has called, so that its remark is quickly found. */
+    private static String test() {
+        String found = "main";
+        for (StackTraceElement frame : new Throwable().getStackTrace()) {
+            if (frame.getMethodName().equals("main")) {
+                return found;
+            }
+            found = frame.getClassName() + "." + frame.getMethodName();
+        }
+        return found;
     }
 }

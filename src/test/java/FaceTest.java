@@ -4,14 +4,18 @@ import java.lang.reflect.Modifier;
 import java.util.Arrays;
 import java.util.Set;
 import java.util.TreeSet;
+import java.util.stream.Collectors;
 
 /** The class's face is the document's, with no other member that is not private. */
 public final class FaceTest {
     private static final Set<String> METHODS = new TreeSet<>(Set.of(
-            "int device(int)", "int point(int, int, int, int)", "int option(int, int, int)", "int choose(int, int)",
-            "int time(int, int, boolean)", "int opensFrom(int)", "int order(int, int, int)",
-            "int broken(int, int, int)", "boolean settle(int)", "int chosen(int)", "int impedance(int, int)",
-            "int voltage(int)", "int shortAt(int)", "int opens(int, int)"));
+            "int device(int) throws argument, state", "int point(int, int, int, int) throws argument, state",
+            "int option(int, int, int) throws argument, state", "int choose(int, int) throws argument",
+            "int time(int, int, boolean) throws argument", "int opensFrom(int) throws argument",
+            "int order(int, int, int) throws argument", "int broken(int, int, int) throws argument",
+            "boolean settle(int) throws argument", "int chosen(int) throws argument",
+            "int impedance(int, int) throws argument", "int voltage(int) throws argument",
+            "int shortAt(int) throws argument", "int opens(int, int) throws argument"));
 
     public static void main(String[] args) {
         Check check = new Check();
@@ -33,11 +37,16 @@ public final class FaceTest {
         Set<String> open = new TreeSet<>();
         for (Method m : type.getDeclaredMethods()) {
             if (!Modifier.isPrivate(m.getModifiers())) {
-                String[] takes = Arrays.stream(m.getParameterTypes()).map(Class::getName).toArray(String[]::new);
-                open.add(m.getReturnType().getName() + " " + m.getName() + "(" + String.join(", ", takes) + ")");
+                String call = m.getName() + "(" + names(m.getParameterTypes()) + ")";
+                open.add(m.getReturnType().getName() + " " + call + " throws " + names(m.getExceptionTypes()));
             }
         }
         return open;
+    }
+
+    private static String names(Class<?>[] types) {
+        return Arrays.stream(types).map(Class::getSimpleName).collect(Collectors.joining(", "))
+                .replace("IllegalArgumentException", "argument").replace("IllegalStateException", "state");
     }
 
     private static Set<String> openFields(Class<?> type) {

@@ -40,27 +40,6 @@ public final class PromisesTest {
         CHECK.end();
     }
 
-    private static long bit(boolean b) {
-        return b ? 1 : 0;
-    }
-
-    /** A chain of devices, each below the one before it. */
-    private static BreakerOrders chain(int length) {
-        BreakerOrders x = new BreakerOrders();
-        for (int i = 0; i < length; i++) {
-            x.device(i - 1);
-        }
-        return x;
-    }
-
-    /** Two devices, 1 below 0, each with a level curve from place 1 on. */
-    private static BreakerOrders level(int upperLeast, int lowerMost) {
-        BreakerOrders x = chain(2);
-        x.point(0, 1, upperLeast, 100000);
-        x.point(1, 1, 0, lowerMost);
-        return x;
-    }
-
     // Promise 1
     private static void newObject() {
         BreakerOrders x = new BreakerOrders();
@@ -76,7 +55,7 @@ public final class PromisesTest {
         CHECK.argument("1: impedance", () -> x.impedance(0, 1));
         CHECK.argument("1: shortAt", () -> x.shortAt(0));
         CHECK.argument("1: opens", () -> x.opens(0, 0));
-        CHECK.due("1: settle", 1, () -> bit(x.settle(0)));
+        CHECK.due("1: settle", 1, () -> Check.bit(x.settle(0)));
         CHECK.due("1: voltage", 0, () -> x.voltage(0));
         BreakerOrders other = new BreakerOrders();
         other.device(NONE);
@@ -109,7 +88,7 @@ public final class PromisesTest {
 
     // Promise 3
     private static void pointBounds() {
-        BreakerOrders x = chain(1);
+        BreakerOrders x = Make.chain(1);
         int[][] wrong = {
             {-1, 1, 0, 0}, {1, 1, 0, 0}, {MIN, 1, 0, 0}, {MAX, 1, 0, 0},
             {0, 0, 0, 0}, {0, 5001, 0, 0}, {0, -1, 0, 0}, {0, MIN, 0, 0}, {0, MAX, 0, 0},
@@ -127,7 +106,7 @@ public final class PromisesTest {
     }
 
     private static void pointStates() {
-        BreakerOrders x = chain(2);
+        BreakerOrders x = Make.chain(2);
         CHECK.due("3: one", 1, () -> x.point(0, 10, 7, 7));
         CHECK.state("3: at the last one's place", () -> x.point(0, 10, 9, 9));
         CHECK.state("3: ahead of it", () -> x.point(0, 9, 9, 9));
@@ -145,7 +124,7 @@ public final class PromisesTest {
 
     // Promise 4
     private static void option() {
-        BreakerOrders x = chain(2);
+        BreakerOrders x = Make.chain(2);
         int[][] wrong = {
             {2, 100, 0}, {-1, 100, 0}, {0, 9, 0}, {0, 1001, 0}, {0, 0, 0}, {0, -100, 0}, {0, MIN, 0},
             {0, MAX, 0}, {0, 100, -1}, {0, 100, 10001}, {0, 100, MIN}, {0, 100, MAX},
@@ -165,7 +144,7 @@ public final class PromisesTest {
 
     // Promise 5
     private static void choose() {
-        BreakerOrders x = chain(2);
+        BreakerOrders x = Make.chain(2);
         CHECK.due("5: the only one", 0, () -> x.choose(0, 0));
         CHECK.argument("5: one too great", () -> x.choose(0, 1));
         x.option(0, 100, 10);
@@ -188,7 +167,7 @@ public final class PromisesTest {
 
     // Promise 6
     private static void timeOnOneCurve() {
-        BreakerOrders x = chain(1);
+        BreakerOrders x = Make.chain(1);
         CHECK.due("6: no point", NONE, () -> x.time(0, 5000, true));
         x.point(0, 100, 1000, 1200);
         CHECK.due("6: one point, ahead of it", NONE, () -> x.time(0, 99, false));
@@ -219,7 +198,7 @@ public final class PromisesTest {
     }
 
     private static void timeMoved() {
-        BreakerOrders x = chain(1);
+        BreakerOrders x = Make.chain(1);
         x.point(0, 100, 1000, 1200);
         x.point(0, 200, 500, 600);
         x.option(0, 33, 7);
@@ -238,7 +217,7 @@ public final class PromisesTest {
     }
 
     private static void timeAtTheBounds() {
-        BreakerOrders x = chain(1);
+        BreakerOrders x = Make.chain(1);
         x.point(0, 1, 0, 100000);
         x.point(0, 5000, 100000, 100000);
         x.option(0, 1000, 10000);
@@ -256,7 +235,7 @@ public final class PromisesTest {
 
     // Promise 7
     private static void opensFrom() {
-        BreakerOrders x = chain(2);
+        BreakerOrders x = Make.chain(2);
         CHECK.due("7: no point", NONE, () -> x.opensFrom(0));
         x.point(0, 101, 1, 1);
         x.point(0, 102, 1, 1);
@@ -274,7 +253,7 @@ public final class PromisesTest {
         x.option(1, 1000, 0);
         x.choose(1, 1);
         CHECK.due("7: the last current", 5000, () -> x.opensFrom(1));
-        BreakerOrders y = chain(2);
+        BreakerOrders y = Make.chain(2);
         y.point(0, 501, 1, 1);
         y.option(0, 1000, 0);
         y.choose(0, 1);
@@ -289,7 +268,7 @@ public final class PromisesTest {
 
     // Promise 8
     private static void order() {
-        BreakerOrders x = level(500, 400);
+        BreakerOrders x = Make.level(500, 400);
         CHECK.due("8: by less than it has", NONE, () -> x.order(1, 0, 99));
         CHECK.due("8: by what it has", NONE, () -> x.order(1, 0, 100));
         CHECK.due("8: by more", 1, () -> x.order(1, 0, 101));
@@ -312,7 +291,7 @@ public final class PromisesTest {
     }
 
     private static void orderWithoutPoints() {
-        BreakerOrders x = chain(2);
+        BreakerOrders x = Make.chain(2);
         CHECK.due("8: neither opens", NONE, () -> x.order(1, 0, 10000));
         CHECK.due("9: neither opens", 0, () -> x.broken(1, 0, 10000));
         x.point(0, 4999, 100000, 100000);
@@ -327,7 +306,7 @@ public final class PromisesTest {
 
     /** At current 2 the upper one has 10 - 1/3, the lower ones 10 - 1/2 and 10 - 1/4. */
     private static void orderIsExact() {
-        BreakerOrders y = chain(3);
+        BreakerOrders y = Make.chain(3);
         y.point(0, 1, 10, 10);
         y.point(0, 4, 9, 9);
         y.point(1, 1, 10, 10);
@@ -343,7 +322,7 @@ public final class PromisesTest {
 
     /** With scale 999 the lower one is later by I * 100000 / (4999 * 9990), more than 1 from 500 on. */
     private static void orderOfGreatestNumbers() {
-        BreakerOrders x = chain(2);
+        BreakerOrders x = Make.chain(2);
         x.point(0, 1, 0, 100000);
         x.point(0, 5000, 100000, 100000);
         x.point(1, 1, 0, 0);
@@ -364,7 +343,7 @@ public final class PromisesTest {
 
     /** With scale 10 the lower one is too late between the currents 3 and 4 alone. */
     private static void orderIsAtWholeCurrents() {
-        BreakerOrders x = chain(2);
+        BreakerOrders x = Make.chain(2);
         x.point(0, 1, 100, 100);
         int[][] peak = {{1, 0}, {33, 0}, {34, 200}, {36, 200}, {37, 0}};
         for (int[] p : peak) {
@@ -380,7 +359,7 @@ public final class PromisesTest {
     }
 
     private static void orderWrongInputs() {
-        BreakerOrders x = chain(2);
+        BreakerOrders x = Make.chain(2);
         int[][] wrong = {
             {0, 0, 0}, {1, 1, 0}, {0, 2, 0}, {2, 0, 0}, {-1, 0, 0}, {0, -1, 0}, {MIN, 0, 0}, {0, MAX, 0},
             {2, 2, 0}, {-1, -1, 0}, {0, 1, -1}, {0, 1, 10001}, {1, 0, MIN}, {1, 0, MAX},
@@ -395,7 +374,7 @@ public final class PromisesTest {
 
     // Promise 9
     private static void broken() {
-        BreakerOrders x = level(500, 400);
+        BreakerOrders x = Make.level(500, 400);
         CHECK.due("9: in order", 0, () -> x.broken(1, 0, 100));
         CHECK.due("9: at every current", 5000, () -> x.broken(1, 0, 101));
         x.point(0, 11, 400, 100000);
@@ -416,7 +395,7 @@ public final class PromisesTest {
     // Promise 10
     private static void settleWithoutPairs() {
         BreakerOrders x = new BreakerOrders();
-        CHECK.due("10: no device", 1, () -> bit(x.settle(10000)));
+        CHECK.due("10: no device", 1, () -> Check.bit(x.settle(10000)));
         x.device(NONE);
         x.device(NONE);
         x.point(0, 1, 0, 0);
@@ -425,30 +404,30 @@ public final class PromisesTest {
         x.option(1, 100, 0);
         x.choose(0, 1);
         x.choose(1, 1);
-        CHECK.due("10: all below the source", 1, () -> bit(x.settle(10000)));
+        CHECK.due("10: all below the source", 1, () -> Check.bit(x.settle(10000)));
         CHECK.due("10: the first options", 0, () -> x.chosen(0));
         CHECK.due("10: the first options", 0, () -> x.chosen(1));
     }
 
     private static void settleFindsTheFirstRow() {
-        BreakerOrders x = level(100, 100);
+        BreakerOrders x = Make.level(100, 100);
         x.option(0, 100, 50);
         x.option(0, 100, 200);
         x.option(0, 100, 40);
         x.option(1, 100, 30);
         x.choose(1, 1);
-        CHECK.due("10: as they are made", 1, () -> bit(x.settle(0)));
+        CHECK.due("10: as they are made", 1, () -> Check.bit(x.settle(0)));
         CHECK.due("10: row 0, 0", 0, () -> x.chosen(0) * 10 + x.chosen(1));
-        CHECK.due("10: the first that goes, not the nearest", 1, () -> bit(x.settle(40)));
+        CHECK.due("10: the first that goes, not the nearest", 1, () -> Check.bit(x.settle(40)));
         CHECK.due("10: row 1, 0", 10, () -> x.chosen(0) * 10 + x.chosen(1));
-        CHECK.due("10: a margin met exactly", 1, () -> bit(x.settle(200)));
+        CHECK.due("10: a margin met exactly", 1, () -> Check.bit(x.settle(200)));
         CHECK.due("10: row 2, 0", 20, () -> x.chosen(0) * 10 + x.chosen(1));
-        CHECK.due("10: a margin beyond", 0, () -> bit(x.settle(201)));
+        CHECK.due("10: a margin beyond", 0, () -> Check.bit(x.settle(201)));
         CHECK.due("10: changes nothing", 20, () -> x.chosen(0) * 10 + x.chosen(1));
     }
 
     private static void settleFindsNothing() {
-        BreakerOrders x = chain(3);
+        BreakerOrders x = Make.chain(3);
         x.point(0, 1, 100, 100);
         x.point(1, 1, 50, 50);
         x.point(2, 1, 60, 60);
@@ -457,20 +436,20 @@ public final class PromisesTest {
             x.option(i, 100, 2);
             x.choose(i, i);
         }
-        CHECK.due("10: none", 0, () -> bit(x.settle(0)));
+        CHECK.due("10: none", 0, () -> Check.bit(x.settle(0)));
         for (int i = 0; i < 3; i++) {
             int number = i;
             CHECK.due("10: the options stand", number, () -> x.chosen(number));
         }
-        CHECK.due("10: none again", 0, () -> bit(x.settle(0)));
+        CHECK.due("10: none again", 0, () -> Check.bit(x.settle(0)));
         x.option(1, 100, 10);
-        CHECK.due("10: one option more", 1, () -> bit(x.settle(0)));
+        CHECK.due("10: one option more", 1, () -> Check.bit(x.settle(0)));
         CHECK.due("10: row 0, 3, 0", 30, () -> x.chosen(0) * 100 + x.chosen(1) * 10 + x.chosen(2));
     }
 
     /** Device 1's option 0 goes with 0's, but device 2 goes with neither of 1's that do. */
     private static void settleLooksAhead() {
-        BreakerOrders x = chain(3);
+        BreakerOrders x = Make.chain(3);
         x.point(0, 1, 100, 100);
         x.point(1, 1, 100, 100);
         x.point(2, 1, 130, 130);
@@ -480,7 +459,7 @@ public final class PromisesTest {
         x.option(1, 100, 20);
         x.option(1, 100, 40);
         x.option(1, 100, 30);
-        CHECK.due("10: it goes back", 1, () -> bit(x.settle(0)));
+        CHECK.due("10: it goes back", 1, () -> Check.bit(x.settle(0)));
         CHECK.due("10: row 2, 2, 0", 220, () -> x.chosen(0) * 100 + x.chosen(1) * 10 + x.chosen(2));
     }
 
@@ -495,9 +474,9 @@ public final class PromisesTest {
             x.option(i, 100, 4);
             x.option(i, 100, 8);
         }
-        CHECK.due("10: 5 goes with no option of 4", 0, () -> bit(x.settle(0)));
+        CHECK.due("10: 5 goes with no option of 4", 0, () -> Check.bit(x.settle(0)));
         x.option(4, 100, 10);
-        CHECK.due("10: the tree", 1, () -> bit(x.settle(0)));
+        CHECK.due("10: the tree", 1, () -> Check.bit(x.settle(0)));
         int[] due = {2, 2, 0, 0, 3, 0};
         for (int i = 0; i < due.length; i++) {
             int number = i;
@@ -506,20 +485,20 @@ public final class PromisesTest {
     }
 
     private static void settleWrongInputs() {
-        BreakerOrders x = level(100, 100);
+        BreakerOrders x = Make.level(100, 100);
         x.option(0, 100, 0);
         x.choose(0, 1);
         for (int wrong : new int[] {-1, 10001, MIN, MAX}) {
-            CHECK.argument("10: margin " + wrong, () -> bit(x.settle(wrong)));
+            CHECK.argument("10: margin " + wrong, () -> Check.bit(x.settle(wrong)));
         }
         CHECK.due("10: nothing has changed", 1, () -> x.chosen(0));
-        CHECK.due("10: the least margin", 1, () -> bit(x.settle(0)));
-        CHECK.due("10: the most margin", 0, () -> bit(x.settle(10000)));
+        CHECK.due("10: the least margin", 1, () -> Check.bit(x.settle(0)));
+        CHECK.due("10: the most margin", 0, () -> Check.bit(x.settle(10000)));
     }
 
     // Promise 11
     private static void chosen() {
-        BreakerOrders x = chain(8);
+        BreakerOrders x = Make.chain(8);
         for (int i = 0; i < 8; i++) {
             int number = i;
             CHECK.due("11: at first", 0, () -> x.chosen(number));
@@ -536,7 +515,7 @@ public final class PromisesTest {
 
     // Promise 12
     private static void impedance() {
-        BreakerOrders x = chain(2);
+        BreakerOrders x = Make.chain(2);
         CHECK.due("12: at first", 100, () -> x.impedance(0, 1));
         CHECK.due("12: the least", 1, () -> x.impedance(0, 10000));
         for (int wrong : new int[] {0, -1, 10001, MIN, MAX}) {
@@ -550,7 +529,7 @@ public final class PromisesTest {
 
     // Promise 13
     private static void voltage() {
-        BreakerOrders x = chain(1);
+        BreakerOrders x = Make.chain(1);
         CHECK.due("13: at first", 0, () -> x.voltage(1));
         CHECK.due("13: then", 1, () -> x.voltage(1000000));
         for (int wrong : new int[] {-1, 1000001, MIN, MAX}) {
@@ -583,7 +562,7 @@ public final class PromisesTest {
         x.impedance(0, 1);
         x.voltage(1000000);
         CHECK.due("14: the greatest", 5000, () -> x.shortAt(0));
-        BreakerOrders y = chain(8);
+        BreakerOrders y = Make.chain(8);
         for (int i = 0; i < 8; i++) {
             y.impedance(i, 10000);
         }
@@ -597,7 +576,7 @@ public final class PromisesTest {
 
     // Promise 15
     private static void opens() {
-        BreakerOrders x = chain(4);
+        BreakerOrders x = Make.chain(4);
         x.device(0);
         x.voltage(400);
         x.point(0, 1, 30, 90);
@@ -626,7 +605,7 @@ public final class PromisesTest {
 
     /** At current 2: 9 + 2/3 for 0, 9 + 1/2 for 1, 9 + 3/4 for 2. */
     private static void opensExactly() {
-        BreakerOrders x = chain(3);
+        BreakerOrders x = Make.chain(3);
         x.point(0, 1, 10, 10);
         x.point(0, 4, 9, 9);
         x.point(1, 1, 10, 10);
@@ -643,7 +622,7 @@ public final class PromisesTest {
     }
 
     private static void opensAtNoCurrent() {
-        BreakerOrders x = chain(2);
+        BreakerOrders x = Make.chain(2);
         x.point(0, 1, 0, 0);
         x.point(1, 1, 0, 0);
         x.option(1, 10, 0);
@@ -651,7 +630,7 @@ public final class PromisesTest {
         CHECK.due("15: no current", NONE, () -> x.opens(1, 0));
         x.voltage(1000);
         CHECK.due("15: a current", 0, () -> x.opens(1, 1));
-        BreakerOrders y = chain(3);
+        BreakerOrders y = Make.chain(3);
         y.voltage(1000);
         CHECK.due("15: no points", NONE, () -> y.opens(2, 0));
         y.point(1, 1, 3, 4);
@@ -660,7 +639,7 @@ public final class PromisesTest {
     }
 
     private static void opensWrongInputs() {
-        BreakerOrders x = chain(1);
+        BreakerOrders x = Make.chain(1);
         CHECK.argument("15: k below 0", () -> x.opens(0, -1));
         CHECK.argument("15: k below 0", () -> x.opens(0, MIN));
         CHECK.argument("15: no device", () -> x.opens(1, 0));
